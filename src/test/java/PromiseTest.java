@@ -27,6 +27,7 @@ public final class PromiseTest {
         test.writeRuns();
         test.writeBrackets();
         test.writeEmphasis();
+        test.writeAllSigns();
         test.writeTop();
         test.writeAnew();
         test.charAt();
@@ -452,6 +453,10 @@ public final class PromiseTest {
         writes("<u><i>a</i></u><p>b</p>", "- a", "", " b");
         writes("<o3><i>a</i><i>b</i></o>", "003. a", "1. b");
         writes("<o0><i>a</i></o>", "0. a");
+        writes("<o10><i>a</i></o>", "10. a");
+        writes("<o100><i>a</i></o>", "0100. a");
+        writes("<o1000><i>a</i></o>", "1000. a");
+        writes("<o9999><i>a</i></o>", "9999. a");
         writes("<p>a\n2. b</p>", "a", "2. b");
         writes("<p>a</p><o1><i>b</i></o>", "a", "01. b");
         writes("<p>a\n1.\n+</p>", "a", "1.", "+");
@@ -573,6 +578,27 @@ public final class PromiseTest {
         runs("*(a)*b", "*(a)*b");
         runs("a_(b)_", "a_(b)_");
         runs("-<e>(a)</e>-", "-_(a)_-");
+    }
+
+    /** Letters, digits and signs, each of the characters in its own place. */
+    private void writeAllSigns() {
+        promise = 21;
+        for (char sign = '!'; sign <= '~'; sign++) {
+            boolean isSign = !Character.isLetterOrDigit(sign);
+            String written = sign == '<' ? "&l" : sign == '&' ? "&a" : String.valueOf(sign);
+            runs("a" + (isSign ? "" : "\\") + written + "b", "a\\" + sign + "b");
+            if ("*_`\\[]".indexOf(sign) < 0) {
+                String due = isSign ? "a*" + written + "b*" : "a<e>" + written + "b</e>";
+                runs(due, "a*" + sign + "b*");
+                due = isSign ? "a" + written + "<e>b</e>" + written : "a" + written + "_b_" + written;
+                runs(due, "a" + sign + "_b_" + sign);
+            }
+        }
+        String great = "ABCDEFGHIJKLMNOPQRSTUVWXYZ 0123456789";
+        WeaveMark mark = text("[" + great.toLowerCase() + "]", "", "[" + great.substring(0, 36) + "]:9");
+        same("the longest label is another", mark.links(), 0);
+        mark = text("[" + great.toLowerCase().substring(0, 36) + "]", "", "[" + great.substring(0, 36) + "]:9");
+        same("the same label", mark.links(), 1);
     }
 
     private void writeTop() {
