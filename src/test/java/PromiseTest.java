@@ -534,6 +534,8 @@ public final class PromiseTest {
         runs("[a[b]", "[a[b]");
         runs("[<a g>b</a>", "[[b](g)");
         runs("[x][x]", "[x][x]");
+        runs("<m g>".repeat(12) + "\nx" + "</m>".repeat(9) + "\n" + "</m>".repeat(3),
+            "![".repeat(12), "x" + "](g)".repeat(9), "](g)".repeat(3));
         String[] defined = {"", "[x y]: g", "[^n]: t", "[z]: <"};
         bracket("<a g>X Y</a>", "[X Y]", defined);
         bracket("<a g>x\ny</a>", "[x", defined, "y]");
@@ -563,6 +565,7 @@ public final class PromiseTest {
         runs("<e>a</e> <s>b</s> a_b_c", "_a_ __b__ a_b_c");
         runs("a<e>b</e>c", "a*b*c");
         runs("a * b ** c *d", "a * b ** c *d");
+        runs("<e>a</e> _b ".repeat(2) + "<e>a</e> _b\n" + "<e>a</e> _b ".repeat(3) + "c", "*a* _b ".repeat(3), "*a* _b ".repeat(3) + "c");
         runs("*a_", "*a_");
         runs("<e>a</e>*", "*a**");
         runs("*<e>a</e>", "**a*");
