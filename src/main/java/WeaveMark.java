@@ -1133,12 +1133,13 @@ public final class WeaveMark {
                 endLeaf();
                 return;
             }
+            // only a next line has its blanks kept: a first line and one added lazily are the text alone
+            boolean keepsBlanks = leafIs('p') && met == openCount;
             if (!leafIs('p') && !leafIs('t')) {
                 leaf = tree.add('p', innermost(), line);
             }
             touched = leaf;
-            // a paragraph keeps the blanks behind a line, as they may make a hard break
-            tree.setText(line, first, leafIs('p') ? text.lengthOf(line) : last);
+            tree.setText(line, first, keepsBlanks ? text.lengthOf(line) : last);
             tree.set(leaf, Tree.LIMIT, line + 1);
         }
     }

@@ -303,7 +303,7 @@ final class PlainModel {
             return;
         }
         if (!begun && !allMet && leaf != null && leaf.kind == 'p') {
-            leaf.rows.add(stripLeft(rest));
+            leaf.rows.add(rest.trim());
             touch(leaf, line);
             return;
         }
@@ -313,8 +313,10 @@ final class PlainModel {
         }
         if (leaf == null) {
             leaf = put('p', open.get(met - 1), line);
+            leaf.rows.add(rest.trim());
+        } else {
+            leaf.rows.add(stripLeft(rest));
         }
-        leaf.rows.add(stripLeft(rest));
         touch(leaf, line);
     }
 

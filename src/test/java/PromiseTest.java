@@ -23,6 +23,7 @@ public final class PromiseTest {
         test.definitionsAndNotes();
         test.usedNotes();
         test.writeBlocks();
+        test.writeBlanksBehindLines();
         test.writeCells();
         test.writeRuns();
         test.writeBrackets();
@@ -483,6 +484,47 @@ public final class PromiseTest {
         writes("<u><i>a</i></u><u><i>b</i></u>", "- a", "", "[a]: g", "- b");
     }
 
+    /** Only a next line of a paragraph, with all met that is open, keeps the blanks behind it. */
+    private void writeBlanksBehindLines() {
+        promise = 21;
+        // a first line is the text of the rest
+        runs("a", "a  ");
+        runs("a\nb", "a  ", "b");
+        runs("<k>a b</k>", "`a  ", "b`");
+        writes("<q><p>one</p></q>", "> one  ", "");
+        writes("<q><p>a\nb</p></q>", "> a  ", "> b");
+        writes("<u><i>a\nb</i></u>", "- a  ", "  b");
+        writes("<q><p>a</p></q><p>b\nc</p>", "> a", ">", "b  ", "c");
+        writes("<h1>a</h1><h2>b</h2>", "a  ", "===", "b   ", "--- ");
+        // a line that is added lazily, too
+        writes("<q><p>a\nb</p></q>", "> a", "b  ");
+        writes("<q><p>a\nb\nc</p></q>", "> a", "b  ", "c");
+        writes("<q><p>a\nb\nc</p></q>", "> a", "b  ", "> c");
+        writes("<u><i>a\nb\nc</i></u>", "- a", "b  ", "  c");
+        writes("<q><q><p>a\nb\nc</p></q></q>", ">> a", "> b  ", ">> c");
+        // a next line keeps them, at the end of the paragraph and ahead of a line of any kind
+        runs("a\nb  ", "a", "b  ");
+        runs("a\nb<b>c ", "a", "b  ", "c ");
+        writes("<q><p>a\nb<b>c</p></q>", "> a", "> b  ", "> c", "");
+        writes("<q><p>a\nb<b>c</p></q>", "> a", "> b  ", "c");
+        writes("<q><p>a\nb\nc<b>d</p></q>", "> a", "b  ", "> c  ", "d");
+        writes("<u><i>a\nb   </i></u>", "- a", "  b   ");
+        writes("<h1>a\nb  </h1>", "a", "b  ", "===");
+        writes("<h1>a\nb<b>c</h1>", "a", "b  ", "c", "===");
+        // it stays a next line when the definition ahead of it is taken out
+        runs("a<b>b", "[a]: g", "a  ", "b");
+        runs("a  ", "[a]: g", "a  ");
+        writes("", "[a]: g  ", "[b]: h  ");
+        // rows of tables keep none
+        writes("<t><w><d>a</d></w><w><d>b</d></w><w><d>c</d></w></t>", "a|  ", "-|  ", "b  ", "c|   ");
+        WeaveMark mark = text("> a", "b  ", "> c");
+        type(mark, "> b  ");
+        mark.setLine(1);
+        same("met by an edit", written(mark), "<q><p>a\nb<b>c</p></q>");
+        mark.removeLine(0);
+        same("first by an edit", written(mark), "<q><p>b\nc</p></q>");
+    }
+
     private void writeCells() {
         promise = 21;
         String head = "<w><d>a</d><d>b</d></w>";
@@ -507,14 +549,13 @@ public final class PromiseTest {
         runs("&la>&a", "<a>&");
         runs("*\\a\\ \\", "\\*\\a\\ \\");
         runs("a <b>b", "a \\", "b");
-        runs("a<b>b", "a  ", "b");
-        runs("a\nb", "a ", "  b");
-        runs("a  ", "a  ");
+        runs("x\na<b>b", "x", "a  ", "b");
+        runs("x\na\nb", "x", "a ", "  b");
         runs("<k>*a* \\</k>", "`*a* \\`");
         runs("<k>a`b</k>", "`` a`b ``");
         runs("<k>  </k> <k> a</k>", "`  ` ` a`");
         runs("<k>a b</k>", "`a", "b`");
-        runs("<k>a   b</k>", "`a  ", "b`");
+        runs("x\n<k>a   b</k>", "x", "`a  ", "b`");
         runs("``a`", "``a`");
         runs("`<k>a</k>", "\\``a`");
         runs("a\\\nb", "a\\\\ ", "b");
