@@ -1,8 +1,5 @@
 /** The promises one by one, with answers worked out by hand from the document. */
-public final class PromiseTest {
-
-    private final Tally tally = new Tally();
-    private int promise;
+public final class PromiseTest extends Checks {
 
     public static void main(String[] args) {
         PromiseTest test = new PromiseTest();
@@ -36,97 +33,13 @@ public final class PromiseTest {
         test.keptShare();
         test.meanLength();
         test.isSound();
-        test.tally.close("PromiseTest");
-    }
-
-    // ---- helpers
-
-    private interface Call {
-        Object answer();
-    }
-
-    private void same(String what, Object got, Object due) {
-        tally.same("promise " + promise + ": " + what, got, due);
-    }
-
-    /** The call throws just this exception; what it may not change is asked for by the caller. */
-    private void throwing(String what, Class<?> due, Call call) {
-        Object got;
-        try {
-            got = call.answer();
-        } catch (RuntimeException e) {
-            got = e.getClass();
-        }
-        same(what, got, due);
-    }
-
-    private static void type(WeaveMark mark, String text) {
-        for (char sign : text.toCharArray()) {
-            mark.type(sign);
-        }
-    }
-
-    private static void add(WeaveMark mark, String... lines) {
-        for (String line : lines) {
-            type(mark, line);
-            mark.addLine();
-        }
-    }
-
-    private static WeaveMark text(String... lines) {
-        WeaveMark mark = new WeaveMark();
-        add(mark, lines);
-        return mark;
-    }
-
-    private static WeaveMark full() {
-        WeaveMark mark = new WeaveMark();
-        for (int line = 0; line < 24; line++) {
-            mark.addLine();
-        }
-        return mark;
-    }
-
-    private static String shown(WeaveMark mark, int length) {
-        StringBuilder out = new StringBuilder();
-        for (int index = 0; index < length; index++) {
-            out.append(mark.charAt(index));
-        }
-        return out.toString();
-    }
-
-    private static String written(WeaveMark mark) {
-        return shown(mark, mark.write());
-    }
-
-    private void writes(String due, String... lines) {
-        WeaveMark mark = text(lines);
-        String told = String.join("\n", lines);
-        same("write of\n" + told, written(mark), due);
-        same("writeAnew of\n" + told, shown(mark, mark.writeAnew()), due);
-    }
-
-    /** What a paragraph of these lines has written in its <p>. */
-    private void runs(String due, String... lines) {
-        writes("<p>" + due + "</p>", lines);
-    }
-
-    private static String kindsOf(WeaveMark mark) {
-        StringBuilder out = new StringBuilder();
-        for (int top = 0; top < mark.tops(); top++) {
-            out.append(mark.kindOf(top)).append(mark.beginOf(top)).append(' ');
-        }
-        return out.toString().trim();
-    }
-
-    private void tops(String due, String... lines) {
-        same("top blocks of\n" + String.join("\n", lines), kindsOf(text(lines)), due);
+        test.close("PromiseTest");
     }
 
     // ---- lines
 
     private void newObject() {
-        promise = 1;
+        promise(1);
         WeaveMark mark = new WeaveMark();
         same("lines", mark.lines(), 0);
         same("tops", mark.tops(), 0);
@@ -140,7 +53,7 @@ public final class PromiseTest {
     }
 
     private void type() {
-        promise = 2;
+        promise(2);
         WeaveMark mark = new WeaveMark();
         throwing("below 32", IllegalArgumentException.class, () -> mark.type((char) 31));
         throwing("above 126", IllegalArgumentException.class, () -> mark.type((char) 127));
@@ -159,7 +72,7 @@ public final class PromiseTest {
     }
 
     private void addLine() {
-        promise = 3;
+        promise(3);
         WeaveMark mark = new WeaveMark();
         for (int line = 1; line <= 23; line++) {
             same("one more", mark.addLine(), line);
@@ -176,7 +89,7 @@ public final class PromiseTest {
     }
 
     private void insertLine() {
-        promise = 4;
+        promise(4);
         WeaveMark mark = new WeaveMark();
         type(mark, "b");
         throwing("below 0", IndexOutOfBoundsException.class, () -> mark.insertLine(-1));
@@ -198,7 +111,7 @@ public final class PromiseTest {
     }
 
     private void setLine() {
-        promise = 5;
+        promise(5);
         WeaveMark mark = text("abc", "de");
         type(mark, "longer");
         throwing("below 0", IndexOutOfBoundsException.class, () -> mark.setLine(-1));
@@ -214,7 +127,7 @@ public final class PromiseTest {
     }
 
     private void removeLine() {
-        promise = 6;
+        promise(6);
         WeaveMark mark = text("a", "b", "c");
         type(mark, "z");
         throwing("below 0", IndexOutOfBoundsException.class, () -> mark.removeLine(-1));
@@ -230,7 +143,7 @@ public final class PromiseTest {
     }
 
     private void lines() {
-        promise = 7;
+        promise(7);
         WeaveMark mark = text("a", "", "b");
         same("blank lines count", mark.lines(), 3);
         mark.removeLine(1);
@@ -242,9 +155,9 @@ public final class PromiseTest {
     }
 
     private void reads(WeaveMark mark, int last, int all) {
-        promise = 9;
+        promise(9);
         same("readLast", mark.readLast(), last);
-        promise = 8;
+        promise(8);
         same("read", mark.read(), all);
     }
 
@@ -306,10 +219,10 @@ public final class PromiseTest {
     // ---- blocks
 
     private void topsAndBegins() {
-        promise = 10;
+        promise(10);
         WeaveMark mark = text("", "a", "b", "", "[a]: g", "", "> q", "- l", "# h", "***", "```", "x", "```", "a|b", "-|-");
         same("tops", mark.tops(), 8);
-        promise = 11;
+        promise(11);
         same("begins", kindsOf(mark), "p1 -4 q6 u7 h8 r9 c10 t13");
         throwing("below 0", IndexOutOfBoundsException.class, () -> mark.beginOf(-1));
         throwing("no such block", IndexOutOfBoundsException.class, () -> mark.beginOf(8));
@@ -325,7 +238,7 @@ public final class PromiseTest {
     }
 
     private void kinds() {
-        promise = 12;
+        promise(12);
         WeaveMark mark = text("a");
         throwing("below 0", IndexOutOfBoundsException.class, () -> mark.kindOf(-1));
         throwing("no such block", IndexOutOfBoundsException.class, () -> mark.kindOf(1));
@@ -336,7 +249,7 @@ public final class PromiseTest {
     }
 
     private void count() {
-        promise = 13;
+        promise(13);
         WeaveMark mark = text("> - a", ">   # h", "> - [a]: g", "> 1. x", "", "a", "***", "```", "```", "a|b", "-|-");
         same("kinds", kindsOf(mark), "q0 p5 r6 c7 t9");
         String kinds = "phquorcti";
@@ -352,7 +265,7 @@ public final class PromiseTest {
     }
 
     private void depth() {
-        promise = 14;
+        promise(14);
         same("of leaves", text("a", "# b").depth(), 0);
         same("of a quote", text("> a").depth(), 1);
         same("lists do not count", text("- a", "  - b").depth(), 2);
@@ -363,7 +276,7 @@ public final class PromiseTest {
     }
 
     private void looseLists() {
-        promise = 15;
+        promise(15);
         same("none", text("a").looseLists(), 0);
         same("tight", text("- a", "- b").looseLists(), 0);
         same("between items", text("- a", "", "- b").looseLists(), 1);
@@ -382,11 +295,11 @@ public final class PromiseTest {
     }
 
     private void headings() {
-        promise = 16;
+        promise(16);
         WeaveMark mark = text("## a", "> b", "> ===", "- ###### c", "d", "---", "# e");
         same("headings", mark.headings(), 5);
         same("none", text("a").headings(), 0);
-        promise = 17;
+        promise(17);
         int[] due = {2, 1, 6, 2, 1};
         for (int heading = 0; heading < due.length; heading++) {
             same("level of " + heading, mark.levelOf(heading), due[heading]);
@@ -398,7 +311,7 @@ public final class PromiseTest {
     }
 
     private void definitionsAndNotes() {
-        promise = 18;
+        promise(18);
         WeaveMark mark = text("[a]: g", "[ A ]: h", "[b c]:i", "[^a]: t", "[^b]: u v", "[^B]: w");
         same("labels with a goal", mark.definitions(), 2);
         same("none", text("[a]", "[a]: g").definitions(), 0);
@@ -409,11 +322,11 @@ public final class PromiseTest {
         same("no goal", text("[a]:").definitions() + text("[a]: b c").definitions() + text("[a] : b").definitions(), 0);
         same("a mark is no part of a label", text("[^]: g").definitions() + text("[^ ]: g").definitions(), 0);
         same("blanks behind it", text("[a]:   g  ").definitions(), 1);
-        promise = 19;
+        promise(19);
         same("labels of notes", mark.notes(), 2);
         same("no text", text("[^a]:").notes() + text("[^a]:  ").notes() + text("[^]: a").notes(), 0);
         same("a paragraph goes on behind them", written(text("[^a]: t", "[b]: g", "x", "[c]: g")), "<p>x\n[c]: g</p>");
-        promise = 18;
+        promise(18);
         writes("<p><a g>x</a></p>", "[x][a]", "", "[a]: g", "[a]: h");
         mark.removeLine(0);
         same("one of two is left", mark.definitions(), 2);
@@ -422,7 +335,7 @@ public final class PromiseTest {
     }
 
     private void usedNotes() {
-        promise = 20;
+        promise(20);
         WeaveMark mark = text("[^b] [^a] [^b] [^z]", "", "[^a]: 1 [^c]", "[^b]: 2", "[^c]: 3 [^a]", "[^d]: 4 [^e]", "[^e]: 5");
         same("used", mark.usedNotes(), 3);
         same("not used", text("[^a]: t").usedNotes(), 0);
@@ -437,7 +350,7 @@ public final class PromiseTest {
     // ---- writing
 
     private void writeBlocks() {
-        promise = 21;
+        promise(21);
         same("nothing", written(new WeaveMark()), "");
         writes("<p>a\nb</p><p>c</p>", "a", "   b", " ", "c");
         writes("<q><p>a\nb\nc</p></q>", "> a", "b", ">c");
@@ -486,7 +399,7 @@ public final class PromiseTest {
 
     /** Only a next line of a paragraph, with all met that is open, keeps the blanks behind it. */
     private void writeBlanksBehindLines() {
-        promise = 21;
+        promise(21);
         // a first line is the text of the rest
         runs("a", "a  ");
         runs("a\nb", "a  ", "b");
@@ -526,7 +439,7 @@ public final class PromiseTest {
     }
 
     private void writeCells() {
-        promise = 21;
+        promise(21);
         String head = "<w><d>a</d><d>b</d></w>";
         writes("<t>" + head + "</t>", "a|b", "-|-");
         writes("<t>" + head + "<w><d>c</d><d></d></w><w><d>d</d><d>e</d></w></t>", "|a | b|", ":-: | ---", "c", "d|e|f");
@@ -545,7 +458,7 @@ public final class PromiseTest {
     }
 
     private void writeRuns() {
-        promise = 21;
+        promise(21);
         runs("&la>&a", "<a>&");
         runs("*\\a\\ \\", "\\*\\a\\ \\");
         runs("a <b>b", "a \\", "b");
@@ -562,7 +475,7 @@ public final class PromiseTest {
     }
 
     private void writeBrackets() {
-        promise = 21;
+        promise(21);
         runs("<a g>x</a>", "[x](g)");
         runs("<a >x</a>", "[x]()");
         runs("[x](g h) [x](g(h)", "[x](g h) [x](g(h)");
@@ -601,7 +514,7 @@ public final class PromiseTest {
     }
 
     private void writeEmphasis() {
-        promise = 21;
+        promise(21);
         runs("<e>a</e> <s>b</s> <e><s>c</s></e>", "*a* **b** ***c***");
         runs("<e>a</e> <s>b</s> a_b_c", "_a_ __b__ a_b_c");
         runs("a<e>b</e>c", "a*b*c");
@@ -626,7 +539,7 @@ public final class PromiseTest {
 
     /** Letters, digits and signs, each of the characters in its own place. */
     private void writeAllSigns() {
-        promise = 21;
+        promise(21);
         for (char sign = '!'; sign <= '~'; sign++) {
             boolean isSign = !Character.isLetterOrDigit(sign);
             String written = sign == '<' ? "&l" : sign == '&' ? "&a" : String.valueOf(sign);
@@ -646,7 +559,7 @@ public final class PromiseTest {
     }
 
     private void writeTop() {
-        promise = 22;
+        promise(22);
         WeaveMark mark = text("[^b]", "", "[^a]", "", "[^a]: 1", "[^b]: 2", "", "- x");
         same("the first", shown(mark, mark.writeTop(0)), "<p><n1></p>");
         same("numbers as in the whole text", shown(mark, mark.writeTop(1)), "<p><n2></p>");
@@ -659,7 +572,7 @@ public final class PromiseTest {
     }
 
     private void writeAnew() {
-        promise = 23;
+        promise(23);
         WeaveMark mark = text("# a", "# b", "[^n]: t", "", "[^n]");
         int read = mark.read();
         int last = mark.readLast();
@@ -674,7 +587,7 @@ public final class PromiseTest {
     }
 
     private void charAt() {
-        promise = 24;
+        promise(24);
         WeaveMark mark = text("a");
         throwing("nothing was written", IndexOutOfBoundsException.class, () -> mark.charAt(0));
         mark.write();
@@ -692,7 +605,7 @@ public final class PromiseTest {
     }
 
     private void links() {
-        promise = 25;
+        promise(25);
         same("none", text("[a]").links(), 0);
         same("links and pictures", text("[a](g) ![b ![c](g)](h)").links(), 3);
         same("in all that has runs", text("# [a](g)", "[a](g)|[b](g)", "-|-", "", "> - [a](g)").links(), 4);
@@ -706,7 +619,7 @@ public final class PromiseTest {
     }
 
     private void keptShare() {
-        promise = 26;
+        promise(26);
         throwing("no edit", ArithmeticException.class, () -> new WeaveMark().keptShare());
         WeaveMark mark = text("# a", "# b", "# c");
         same("of 6 lines 5 were read", mark.keptShare(), 1f / 6f);
@@ -717,7 +630,7 @@ public final class PromiseTest {
     }
 
     private void meanLength() {
-        promise = 27;
+        promise(27);
         WeaveMark mark = new WeaveMark();
         throwing("no lines", ArithmeticException.class, mark::meanLength);
         add(mark, "ab", "", "c d");
@@ -730,7 +643,7 @@ public final class PromiseTest {
     }
 
     private void isSound() {
-        promise = 28;
+        promise(28);
         WeaveMark mark = text("> a", "b", "", "```", "[a]: g", "- x", "", "- [a]");
         same("sound", mark.isSound(), true);
         int read = mark.read();
