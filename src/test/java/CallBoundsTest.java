@@ -1,3 +1,5 @@
+import java.lang.reflect.Field;
+import java.lang.reflect.Method;
 import java.util.Arrays;
 
 /**
@@ -32,6 +34,7 @@ public final class CallBoundsTest extends Checks {
         test.share();
         test.meanLength();
         test.sound();
+        test.unsound();
         test.readingBegins();
         test.readingEnds();
         test.readingEndsWhereBothBegin();
@@ -492,6 +495,44 @@ public final class CallBoundsTest extends Checks {
         same("of four", most.meanLength(), 30.25);
         same("of 24 empty ones", full().meanLength(), 0.0);
         same("no whole number", text("a", "", "").meanLength(), 1.0 / 3.0);
+    }
+
+    /** Sets a field of a block of the kept tree: no call of the face can leave a text unsound. */
+    private static void spoil(WeaveMark mark, int block, String field, int value) {
+        try {
+            Field kept = WeaveMark.class.getDeclaredField("kept");
+            kept.setAccessible(true);
+            Object tree = kept.get(mark);
+            Field number = tree.getClass().getDeclaredField(field);
+            number.setAccessible(true);
+            Method set = tree.getClass().getDeclaredMethod("set", int.class, int.class, int.class);
+            set.setAccessible(true);
+            set.invoke(tree, block, number.getInt(null), value);
+        } catch (ReflectiveOperationException e) {
+            throw new IllegalStateException(e);
+        }
+    }
+
+    private void unsound() {
+        sentence("what write() and writeAnew() would write is the same, and the top blocks begin at rising lines");
+        WeaveMark mark = text("# a", "# b", "", "c");
+        same("sound", mark.isSound(), true);
+        spoil(mark, 0, "VALUE", 2);
+        same("another character", mark.isSound(), false);
+        spoil(mark, 0, "VALUE", 1);
+        same("sound again", mark.isSound(), true);
+        spoil(mark, 2, "KIND", '-');
+        same("less is written", mark.isSound(), false);
+        spoil(mark, 2, "KIND", 'p');
+        same("sound again", mark.isSound(), true);
+        for (int line : new int[] {0, 1}) {
+            spoil(mark, 2, "BEGIN", line);
+            same("the third block begins at " + line, mark.isSound(), false);
+        }
+        spoil(mark, 2, "BEGIN", 2);
+        same("it begins behind the second one", mark.isSound(), true);
+        spoil(mark, 0, "BEGIN", 1);
+        same("the first block begins at 1", mark.isSound(), false);
     }
 
     private void sound() {
