@@ -18,7 +18,31 @@ public final class ModelTest {
         "[^o]", "][a]", "][]", "][z]", "![a]", "`", "``", "```", "\\", "\\*", "\\[", "<", "&", ">", "|", ".", "1", "#", "^", "!", "-", ":",
         "*a*", "**a**", "_a_", "[x](y)", "[a](b c)", "*a [b](c) d*", "`a`", "` a `",
     };
+    private static final String[] DASHES = {"-", ":-:", "--", " - ", ":-", "- :"};
+    private static final String[] CELLS = {
+        "a", " b ", "\\|", "\\\\|", "\\", "*x*", "`|`", "[a]", "[^n]", "  ", "-", "", "_",
+    };
+    private static final String[] NAMES = {"a", "A", " a ", "b c", "B C", "^n", "^N ", "^m", "^o", "^^n", " ^n", "^", " ", "x]"};
+    private static final String[] GOALS = {
+        "g", " <&>", "  g  ", "g h", "", "(u)", " *k* [^m]", "[^n] [a]", " t [^o][b c]", "`k` ![a]()",
+    };
+    private static final String[] LABELS = {
+        "[a]", "[b C]", "[^n]", "[^ N ]", "[^m]", "[^o]", "[^^n]", "[ ^n]", "][a]", "][]", "![a]", "![", "](u)", "]()", "[", "]", " ",
+        "*", "x", "\\", "`a`",
+    };
+    private static final String[] ROWS = {
+        "*", "**", "***", "****", "_", "__", "___", "a", "b", ".", "\"", " ", "\\", "[", "](u)", "![", "`",
+    };
     private static final String SIGNS = " >-*_`[]()!^#|:=\\ab1.+<&";
+    /** Lines of all sorts, and lines of one sort, which so meet more often than by chance. */
+    private static final int OF_SIGNS = 0;
+    private static final int MIXED = 1;
+    private static final int OF_RUNS = 2;
+    private static final int OF_CELLS = 3;
+    private static final int OF_LABELS = 4;
+    private static final int OF_ROWS = 5;
+    private static final int WAYS = 9;
+    private static final int MOST_LINES = 24;
 
     private final Tally tally = new Tally();
     private final Random random;
@@ -42,42 +66,100 @@ public final class ModelTest {
         return from[random.nextInt(from.length)];
     }
 
+    private void put(StringBuilder line, String[] from, int below) {
+        for (int left = random.nextInt(below); left > 0; left--) {
+            line.append(pick(from));
+        }
+    }
+
+    /** A row of a table, or the line below its head. */
+    private void putCells(StringBuilder line) {
+        String[] from = random.nextInt(3) == 0 ? DASHES : CELLS;
+        put(line, AHEAD, random.nextInt(2) + 1);
+        line.append(random.nextInt(3) == 0 ? "|" : "");
+        line.append(pick(from));
+        for (int left = random.nextInt(3); left > 0; left--) {
+            line.append('|').append(pick(from));
+        }
+        line.append(random.nextInt(3) == 0 ? "|" : "");
+    }
+
+    /** A definition, or a line that uses some. */
+    private void putLabels(StringBuilder line) {
+        put(line, AHEAD, random.nextInt(2) + 1);
+        if (random.nextInt(2) == 0) {
+            line.append('[').append(pick(NAMES)).append("]:").append(pick(GOALS));
+        } else {
+            put(line, LABELS, 7);
+        }
+    }
+
     private String line(int way) {
         StringBuilder line = new StringBuilder();
-        if (way == 0) {
-            for (int left = random.nextInt(14); left > 0; left--) {
-                line.append(SIGNS.charAt(random.nextInt(SIGNS.length())));
-            }
-        } else {
-            for (int left = random.nextInt(random.nextInt(5) + 1); left > 0; left--) {
-                line.append(pick(AHEAD));
-            }
-            if (random.nextInt(2) == 0 && way != 2) {
-                line.append(pick(WHOLE));
-            } else {
-                for (int left = random.nextInt(way == 2 ? 16 : 7); left > 0; left--) {
-                    line.append(pick(RUNS));
+        switch (way) {
+            case OF_SIGNS:
+                for (int left = random.nextInt(14); left > 0; left--) {
+                    line.append(SIGNS.charAt(random.nextInt(SIGNS.length())));
                 }
-            }
+                break;
+            case OF_CELLS:
+                putCells(line);
+                break;
+            case OF_LABELS:
+                putLabels(line);
+                break;
+            case OF_ROWS:
+                put(line, ROWS, 24);
+                break;
+            default:
+                put(line, AHEAD, random.nextInt(5) + 1);
+                if (random.nextInt(2) == 0 && way != OF_RUNS) {
+                    line.append(pick(WHOLE));
+                } else {
+                    put(line, RUNS, way == OF_RUNS ? 16 : 7);
+                }
+                break;
         }
         return line.length() > 40 ? line.substring(0, 40) : line.toString();
+    }
+
+    /** A new line, or one that stands in the text already. */
+    private String line(PlainModel model, int way) {
+        if (!model.lines.isEmpty() && random.nextInt(8) == 0) {
+            return model.lines.get(random.nextInt(model.lines.size()));
+        }
+        return line(way);
     }
 
     private void run(int run) {
         WeaveMark mark = new WeaveMark();
         PlainModel model = new PlainModel();
         told = "run " + run + ":";
-        int way = random.nextInt(6);
+        int chosen = random.nextInt(WAYS);
+        int way = chosen > OF_ROWS ? MIXED : chosen;
+        // some texts are long ahead of the first question, up to as many lines as there may be
+        int ahead = run % 20 == 0 ? 10 + random.nextInt(20) : 0;
+        for (int edit = 0; edit < ahead && tally.failed == 0; edit++) {
+            edit(mark, model, way);
+        }
         int edits = 1 + random.nextInt(16);
         for (int edit = 0; edit < edits && tally.failed == 0; edit++) {
-            edit(mark, model, way > 2 ? 1 : way);
+            edit(mark, model, way);
             check(mark, model);
         }
     }
 
+    /** Which edit comes next: the more lines there are, the fewer are added. */
+    private int choose(int size) {
+        if (size == 0) {
+            return 0;
+        }
+        return size < MOST_LINES ? random.nextInt(10) : 7 + random.nextInt(3);
+    }
+
     private void edit(WeaveMark mark, PlainModel model, int way) {
         int size = model.lines.size();
-        int choice = size == 0 ? 0 : random.nextInt(10);
+        int choice = choose(size);
         if (choice >= 9) {
             int line = random.nextInt(size);
             told += "\n  removeLine(" + line + ")";
@@ -85,7 +167,7 @@ public final class ModelTest {
             tally.same(told, mark.removeLine(line), model.lines.size());
             return;
         }
-        String with = line(way);
+        String with = line(model, way);
         for (int index = 0; index < with.length(); index++) {
             tally.same(told + " type", mark.type(with.charAt(index)), index + 1);
         }
